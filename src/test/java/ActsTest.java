@@ -41,6 +41,8 @@ public final class ActsTest {
         check.same("P28 61", x.drawn(61, 1), -1);
         check.same("P28 -1", x.drawn(-1, 1), -1);
         check.same("P28 an act", x.now(3), 1);
+        check.same("P28 one deed", x.drawn(1, 0) != -1, true);
+        check.same("P29 undone", x.undo(), 1);
         check.same("P29 undone", x.undo(), 0);
         check.row("P29 undone", x, 0, 5, 5, 5, 5, 5, 5, 5);
         check.row("P29 undone", x, 1, 0, 0, 0, 0, 0, 0, 0);

@@ -101,11 +101,16 @@ public final class TableTest {
         check.same("P16 Z of Catalan's", x.part(0, 3, 5), 1);
         check.row("P16 Z of Catalan's", x, 5, 1, 1, 1, 1, 1, 0);
         SeriesTables y = Check.told("size 3;series 2 6;series 0 5;table 0 1;");
-        check.same("P16 A", y.part(0, 2, 5), 5);
-        check.row("P16 A", y, 5, 5, 0, 0);
         check.same("P16 Z", y.part(0, 3, 5), 3);
         // 1 less 1 by (1 + 3t) is 3t - 9tt; t is f by 5.
         check.row("P16 Z", y, 5, 3, Check.P - Check.quotient(9, 5), 0);
+        check.same("P16 A", y.part(0, 2, 5), 5);
+        check.row("P16 A", y, 5, 5, 0, 0);
+        SeriesTables ten = Check.told("size 10;series 1 over 1 -1;series 0 1 over 1 -1;table 0 1;");
+        ten.part(0, 2, 5);
+        check.row("P16 A of Pascal's at size 10", ten, 5, 1, 1, 0, 0, 0, 0, 0, 0, 0, 0);
+        ten.part(0, 3, 5);
+        check.row("P16 Z of Pascal's at size 10", ten, 5, 1, 0, 0, 0, 0, 0, 0, 0, 0, 0);
     }
 
     private static void applied() {
@@ -189,6 +194,10 @@ public final class TableTest {
         check.same("P21 g's second one", x.differ(2, 3, 0), 10);
         check.same("P21 with itself", x.differ(2, 2, 1), -1);
         check.same("P21 with ONE", x.differ(2, 3, 1), -1);
+        SeriesTables z = Check.told("size 3;series 1 4;series 0 1;series 0 2;series 0 1 1;table 0 1;table 0 2;"
+            + "series 5 4;table 4 1;");
+        check.same("P21 on the diagonal", z.differ(0, 1, 0), 11);
+        check.same("P21 at the very first", z.differ(0, 2, 0), 0);
         check.same("P21 no such how", x.differ(0, 2, 2), -1);
         check.same("P21 no such how", x.differ(0, 2, -1), -1);
         check.same("P21 no such table", x.differ(4, 2, 0), -1);

@@ -65,6 +65,8 @@ public final class TextTest {
         check.lines("size 2;series 1;series 0 1;table 000 001;table 0 1;table 0 1;table 0 1;"
             + "series 1;series 1;series 1;series 1;", 11);
 
+        SeriesTables y = Check.told("size 10;series 1 over 1 -1 1 1 1 1 1 1 1 1;series 1 2 3 4 5 6 7 8 9 10 over 1;");
+        check.row("P4 a shorter divisor behind a longer one", y, 1, 1, 2, 3, 4, 5, 6, 7, 8, 9, 10);
         SeriesTables x = Check.told("size 5;series 1 over 1-1-1;series-999 0 - 3;series 0 1 2 over -2 1;table 0 2;");
         check.same("P6 SERIES", x.now(1), 3);
         check.same("P6 TABLES", x.now(2), 1);
@@ -97,6 +99,10 @@ public final class TextTest {
         check.fault("size 3;seriess 1;", 7, 1);
         check.fault("size 3;series1;", 7, 1);
         check.fault("size 3;series;", 13, 1);
+        check.fault("size 3;series", 13, 1);
+        check.fault("size 3;series -", 15, 1);
+        check.fault("size 3;series 1 over", 20, 1);
+        check.fault("size 3;table", 12, 1);
         check.fault("size 3;series -;", 15, 1);
         check.fault("size 3;series --1;", 15, 1);
         check.fault("size 3;series 1 -;", 17, 1);
@@ -176,6 +182,7 @@ public final class TextTest {
         check.fault(filled("size 2;", 499) + ",,", 499, 1);
         check.fault(filled("size", 499) + "11;", 499, 2);
         check.fault(filled("size", 499) + "10;", 500, 1);
+        check.fault(filled("size", 500) + "11;", 500, 1);
         check.fault(filled("size", 499) + "1000;", 499, 1);
         check.fault(filled("size 1", 540), 5, 2);
     }
