@@ -29,6 +29,14 @@ final class Check {
         }
     }
 
+    int wrong() {
+        return wrong;
+    }
+
+    int looked() {
+        return looked;
+    }
+
     void finish() {
         System.out.println(looked + " answers looked at, " + wrong + " wrong");
         if (wrong != 0) {
@@ -76,6 +84,11 @@ final class Check {
         if (!x.end(bytes.length)) {
             throw new IllegalStateException("the tape did not take the bytes");
         }
+    }
+
+    /** The text with blanks behind it, so many bytes in all. */
+    static String filled(String text, int length) {
+        return text + " ".repeat(length - text.length());
     }
 
     static int text(SeriesTables x, String text) {

@@ -1,5 +1,3 @@
-import java.util.Arrays;
-
 /** Promises 1 to 6: a new object, the tape, texts and their faults. */
 public final class TextTest {
     private static final Check check = new Check();
@@ -161,30 +159,24 @@ public final class TextTest {
         check.fault("size 3;series 1;series 0 0 1;table 0 1", 37, 4);
     }
 
-    private static String filled(String text, int length) {
-        char[] blanks = new char[length - text.length()];
-        Arrays.fill(blanks, ' ');
-        return text + new String(blanks);
-    }
-
     private static void longTexts() {
-        check.lines(filled("size 2;", 500), 1);
-        check.lines(filled("", 500), 0);
-        check.fault(filled("size 2;", 501), 500, 1);
-        check.fault(filled("", 540), 500, 1);
-        check.fault(filled("size 2", 540), 500, 1);
-        check.fault(filled("size 2", 500), 500, 1);
-        check.fault(filled("size 2;", 498) + "series 1;", 500, 1);
-        check.fault(filled("size 2;", 498) + "seriess 1;", 498, 1);
-        check.fault(filled("size 2;", 498) + "over", 498, 1);
-        check.fault(filled("size 2;", 499) + "series", 500, 1);
-        check.fault(filled("size 2;", 500) + ",", 500, 1);
-        check.fault(filled("size 2;", 499) + ",,", 499, 1);
-        check.fault(filled("size", 499) + "11;", 499, 2);
-        check.fault(filled("size", 499) + "10;", 500, 1);
-        check.fault(filled("size", 500) + "11;", 500, 1);
-        check.fault(filled("size", 499) + "1000;", 499, 1);
-        check.fault(filled("size 1", 540), 5, 2);
+        check.lines(Check.filled("size 2;", 500), 1);
+        check.lines(Check.filled("", 500), 0);
+        check.fault(Check.filled("size 2;", 501), 500, 1);
+        check.fault(Check.filled("", 540), 500, 1);
+        check.fault(Check.filled("size 2", 540), 500, 1);
+        check.fault(Check.filled("size 2", 500), 500, 1);
+        check.fault(Check.filled("size 2;", 498) + "series 1;", 500, 1);
+        check.fault(Check.filled("size 2;", 498) + "seriess 1;", 498, 1);
+        check.fault(Check.filled("size 2;", 498) + "over", 498, 1);
+        check.fault(Check.filled("size 2;", 499) + "series", 500, 1);
+        check.fault(Check.filled("size 2;", 500) + ",", 500, 1);
+        check.fault(Check.filled("size 2;", 499) + ",,", 499, 1);
+        check.fault(Check.filled("size", 499) + "11;", 499, 2);
+        check.fault(Check.filled("size", 499) + "10;", 500, 1);
+        check.fault(Check.filled("size", 500) + "11;", 500, 1);
+        check.fault(Check.filled("size", 499) + "1000;", 499, 1);
+        check.fault(Check.filled("size 1", 540), 5, 2);
     }
 
     private static void whatStays() {
