@@ -1,10 +1,9 @@
-/** Promises 28 to 31: drawn deeds, undoing, images. */
+/** Promises 28 to 31: drawn deeds, undoing, images. That each act is undone: see EdgesOfActs. */
 public final class ActsTest {
     private static final Check check = new Check();
 
     public static void main(String[] args) {
         drawn();
-        everyActIsUndone();
         noActs();
         eightAreKept();
         images();
@@ -53,60 +52,6 @@ public final class ActsTest {
         check.same("P29 none", none.undo(), -1);
     }
 
-    private static int act(SeriesTables x, int which) {
-        switch (which) {
-            case 0: return x.put(5, 0, 8);
-            case 1: return x.make(0, 1, 0, 5);
-            case 2: return x.turn(0, 0, 5);
-            case 3: return x.raise(0, 2, 5);
-            case 4: return x.pair(0, 1, 3);
-            case 5: return x.times(0, 0, 3);
-            case 6: return x.power(0, -1, 3);
-            case 7: return x.part(0, 0, 5);
-            case 8: return x.apply(0, 0, 5);
-            case 9: return x.sums(0, 0, 5);
-            case 10: return x.set(2, 1, 8);
-            case 11: return x.lay(0);
-            case 12: return x.rebuild(3);
-            default: return x.drawn(3, 5);
-        }
-    }
-
-    private static String all(SeriesTables x) {
-        StringBuilder told = new StringBuilder();
-        for (int k = 0; k < 6; k++) {
-            for (int i = 0; i < x.now(0); i++) {
-                told.append(x.at(k, i)).append(' ');
-            }
-        }
-        for (int i = 0; i < x.now(0); i++) {
-            for (int j = 0; j < x.now(0); j++) {
-                for (int k = 0; k < 4; k++) {
-                    told.append(Check.entry(x, k, i, j)).append(' ');
-                }
-                told.append(x.free(i, j)).append(' ');
-            }
-        }
-        return told.toString();
-    }
-
-    private static void everyActIsUndone() {
-        for (int which = 0; which <= 13; which++) {
-            SeriesTables x = Check.told("size 3;series 1 2 3;series 0 2 1;table 0 1;");
-            if (which == 12) {
-                x.lay(0);
-            }
-            int ahead = x.now(3);
-            String was = all(x);
-            int answer = act(x, which);
-            check.same("act " + which + " was one", answer != -1, true);
-            check.same("P6 act " + which + " can be undone", x.now(3), ahead + 1);
-            check.same("act " + which + " changed something", all(x).equals(was), false);
-            check.same("P29 act " + which, x.undo(), ahead);
-            check.same("P29 act " + which + " is undone", all(x).equals(was), true);
-        }
-    }
-
     private static void noActs() {
         SeriesTables x = Check.told("size 3;series 1 2 3;series 0 2 1;table 0 1;");
         x.put(0, 0, 1);
@@ -153,7 +98,7 @@ public final class ActsTest {
         Check.text(x, "size 3;series 1 2 3;series 0 2 1;table 0 1;");
         x.lay(0);
         x.set(2, 2, 77);
-        String was = all(x);
+        String was = Shown.places(x);
         check.same("P30 image", x.image(0), true);
         check.same("P30 acts stay", x.now(3), 2);
         check.same("P30 no such place", x.image(2), false);
@@ -167,7 +112,7 @@ public final class ActsTest {
         check.same("P31 acts stay then", x.now(3), 1);
         check.same("P31 restore", x.restore(0), true);
         check.same("P31 SIZE", x.now(0), 3);
-        check.same("P31 all places", all(x).equals(was), true);
+        check.same("P31 all places", Shown.places(x).equals(was), true);
         check.same("P31 SERIES told stay", x.now(1), 1);
         check.same("P31 TABLES told stay", x.now(2), 0);
         check.same("P31 nothing can be undone", x.now(3), 0);
@@ -178,7 +123,7 @@ public final class ActsTest {
         x.set(0, 0, 9);
         x.power(0, 2, 0);
         check.same("P31 once more", x.restore(0), true);
-        check.same("P31 the image is its own", all(x).equals(was), true);
+        check.same("P31 the image is its own", Shown.places(x).equals(was), true);
         check.same("P31 the one without SIZE", x.restore(1), true);
         check.same("P31 no SIZE", x.now(0), 0);
         check.same("P31 no coefficients", x.at(0, 0), -1);

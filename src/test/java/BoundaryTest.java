@@ -34,8 +34,9 @@ public final class BoundaryTest {
         for (Class<?> group : GROUPS) {
             test.runGroup(group);
         }
+        System.out.println(test.passed + " tests of sentences passed");
         test.lookForRefusalsWithoutTest();
-        System.out.println(test.passed + " tests of sentences passed, " + test.failed + " failed");
+        System.out.println(test.passed + " with looks for sentences without one, " + test.failed + " failed");
         if (test.failed != 0) {
             System.exit(1);
         }

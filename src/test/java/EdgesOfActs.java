@@ -14,7 +14,14 @@ final class EdgesOfActs {
         x.lay(0);
         x.pair(0, 1, 3);
         Check.text(x, "size 10;series 7;");
+        allButTheFirstSeriesAsAtFirst(check, x);
         check.row("what it tells", x, 0, 7, 0, 0, 0, 0, 0, 0, 0, 0, 0);
+        Check.text(x, "size 10;");
+        allButTheFirstSeriesAsAtFirst(check, x);
+        check.row("no SERIES told", x, 0, 0, 0, 0, 0, 0, 0, 0, 0, 0, 0);
+    }
+
+    private static void allButTheFirstSeriesAsAtFirst(Check check, SeriesTables x) {
         for (int series = 1; series < 6; series++) {
             check.row("series as at first", x, series, 0, 0, 0, 0, 0, 0, 0, 0, 0, 0);
         }
@@ -255,7 +262,7 @@ final class EdgesOfActs {
         String first = Shown.places(x);
         check.same("image(0)", x.image(0), true);
         check.same("acts stay", x.now(3), 4);
-        Check.text(x, "size 10;series 1;series 0 3 0 0 0 0 0 0 0 2;table 0 1;");
+        Check.text(x, "size 8;series 1;series 0 3 0 0 0 0 0 2;table 0 1;");
         x.lay(0);
         String second = Shown.places(x);
         check.same("image(1)", x.image(1), true);
@@ -265,7 +272,7 @@ final class EdgesOfActs {
         x.drawn(60, 3);
         x.lay(3);
         check.same("restore(1)", x.restore(1), true);
-        check.same("SIZE", x.now(0), 10);
+        check.same("SIZE", x.now(0), 8);
         check.same("all places", Shown.places(x).equals(second), true);
     }
 
@@ -282,6 +289,19 @@ final class EdgesOfActs {
         x.put(0, 0, 9);
         check.same("restore(1)", x.restore(1), true);
         check.row("what was kept last", x, 0, 1, 2, 3);
+    }
+
+    @Sentence(of = "Promise 30", says = "SIZE, all places, THE FREE TABLE are kept in place k (0, 1): true")
+    static void imageOfTheLargestSize(Check check) {
+        SeriesTables x = Check.told("size 10;series 1 2 3 4 5 6 7 8 9 10;series 0 3 0 0 0 0 0 0 0 2;table 0 1;");
+        x.times(0, 0, 3);
+        x.drawn(60, 60);
+        x.lay(3);
+        String kept = Shown.places(x);
+        x.image(1);
+        x.text();
+        check.same("restore(1)", x.restore(1), true);
+        check.same("all places", Shown.places(x).equals(kept), true);
     }
 
     @Sentence(of = "Promise 30", says = "false: no such one")

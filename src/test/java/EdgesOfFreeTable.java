@@ -124,6 +124,38 @@ final class EdgesOfFreeTable {
         check.same("0 in the last place", three.unlike(), 22);
     }
 
+    @Sentence(of = "Terms", says = "It is RECOGNISED, if there is a TABLE of which it has all ENTRIES")
+    static void oneNumberThatIsOtherwise(Check check) {
+        SeriesTables x = Check.told("size 10;series 1 over 1-1;series 0 1 over 1-1;table 0 1;");
+        x.lay(0);
+        for (int i = 2; i < 10; i++) {
+            for (int j = 2; j <= i; j++) {
+                int was = x.free(i, j);
+                x.set(i, j, was + 1);
+                check.same("unlike at " + i + ", " + j, x.unlike(), 10 * i + j);
+                check.same("not rebuilt", x.rebuild(1), -1);
+                x.set(i, j, was);
+            }
+        }
+        check.same("RECOGNISED again", x.unlike(), -1);
+    }
+
+    @Sentence(of = "Terms", says = "It is RECOGNISED, if there is a TABLE of which it has all ENTRIES")
+    static void lastRowOfTheFirstTwoColumnsIsFree(Check check) {
+        SeriesTables x = Check.told("size 10;series 1 over 1-1;series 0 1 over 1-1;table 0 1;");
+        x.lay(0);
+        x.set(9, 0, 55);
+        check.same("coefficient 9 of g is in no other column", x.unlike(), -1);
+        x.set(9, 1, 66);
+        check.same("nor is that of f in one behind column 1", x.unlike(), -1);
+        check.same("another TABLE comes of it", x.rebuild(1), 66);
+        check.same("its g", Check.entry(x, 1, 9, 0), 55);
+        x.set(8, 0, 55);
+        check.same("of coefficient 8 of g that of f alone is another", x.unlike(), -1);
+        x.set(7, 0, 55);
+        check.same("of coefficient 7 one of column 2 is", x.unlike(), 92);
+    }
+
     @Sentence(of = "Promise 26", says = "100: these make no TABLE")
     static void columnsThatMakeNoTable(Check check) {
         SeriesTables x = Check.told("size 3;");

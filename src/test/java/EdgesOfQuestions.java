@@ -16,9 +16,11 @@ final class EdgesOfQuestions {
     static void firstThreeKindsButForTheLastCoefficient(Check check) {
         check.same("f is t", kindsOf(4, "1 2 5", "0 1 0 0"), 1);
         check.same("f is t but for its last one", kindsOf(4, "1 2 5", "0 1 0 1"), 0);
+        check.same("f is t but for its coefficient 2", kindsOf(4, "1 2 5", "0 1 1 0"), 0);
         check.same("f is 2t", kindsOf(4, "1 2 5", "0 2 0 0"), 0);
         check.same("g is 1", kindsOf(4, "1 0 0 0", "0 2 1"), 2);
         check.same("g is 1 but for its last one", kindsOf(4, "1 0 0 1", "0 2 1"), 0);
+        check.same("g is 1 but for its coefficient 1", kindsOf(4, "1 1 0 0", "0 2 1"), 0);
         check.same("g is 2", kindsOf(4, "2 0 0 0", "0 3 1"), 0);
         check.same("f is t g", kindsOf(4, "1 3 5 7", "0 1 3 5"), 4);
         check.same("f is t g but for its last one", kindsOf(4, "1 3 5 7", "0 1 3 6"), 0);

@@ -21,6 +21,9 @@ final class EdgesOfSeries {
         x.put(1, 1, 0);
         check.same("1 by -1", x.turn(1, 5, 2), 0);
         check.same("1 by -1", x.at(2, 0), 1000002);
+        check.same("a less itself", x.make(0, 0, 1, 2), 0);
+        check.row("a less itself", x, 2, 0, 0);
+        check.row("-0 of a text", Check.told("size 2;series -0 - 000;"), 0, 0, 0);
     }
 
     @Sentence(of = "Terms", says = "A SERIES has coefficients 0 to SIZE less 1; of what comes of series all beyond is left out")
@@ -120,10 +123,27 @@ final class EdgesOfSeries {
         check.row("of tt in tt, in place", x, 2, 0, 0, 0);
     }
 
+    @Sentence(of = "Terms", says = "INSERTED: a(b): for t in a stands b (coefficient 0 of b is 0)")
+    static void insertedAtSizeTwoAndTen(Check check) {
+        SeriesTables two = used("size 2;series 5 7;series 0 3;");
+        check.same("3t at SIZE 2", two.make(0, 1, 4, 5), 21);
+        check.row("3t at SIZE 2", two, 5, 5, 21);
+        SeriesTables ten = used("size 10;series 1 2 3 4 5 6 7 8 9 10;series 0 1;series 0 0 0 0 0 0 0 0 0 1;series 0-1;");
+        check.same("t", ten.make(0, 1, 4, 5), 10);
+        check.row("t", ten, 5, 1, 2, 3, 4, 5, 6, 7, 8, 9, 10);
+        check.same("t^9", ten.make(0, 2, 4, 5), 2);
+        check.row("t^9", ten, 5, 1, 0, 0, 0, 0, 0, 0, 0, 0, 2);
+        check.same("-t, in place", ten.make(0, 3, 4, 0), 1000003 - 10);
+        check.row("-t, in place", ten, 0, 1, -2, 3, -4, 5, -6, 7, -8, 9, -10);
+    }
+
     @Sentence(of = "Promise 9", says = "come to a place: the last coefficient")
     static void lastCoefficientIsTheAnswer(Check check) {
         SeriesTables two = Check.told("size 2;series 1 2;series 3 4;");
         check.same("at SIZE 2", two.make(0, 1, 0, 5), 6);
+        check.row("at SIZE 2", two, 5, 4, 6);
+        check.same("at SIZE 2", two.make(0, 1, 1, 5), 1000001);
+        check.row("at SIZE 2", two, 5, -2, -2);
         SeriesTables ten = Check.told(TEN);
         check.same("at SIZE 10", ten.make(0, 0, 0, 5), 20);
         check.same("to the place of a itself", ten.make(0, 1, 1, 0), 10);
@@ -150,42 +170,49 @@ final class EdgesOfSeries {
         check.row("all stays", x, 0, 1, 2, 3);
     }
 
+    /** An act ahead that leaves no 0 in any row that is reckoned in: none of it may be seen later. */
+    private static SeriesTables used(String text) {
+        SeriesTables x = Check.told(text);
+        x.make(0, 0, 0, 4);
+        return x;
+    }
+
     @Sentence(of = "Promise 10", says = "1 one place ahead (coefficient 0 goes, the last one is 0)")
     static void onePlaceAhead(Check check) {
-        SeriesTables two = Check.told("size 2;series 5 7;");
+        SeriesTables two = used("size 2;series 5 7;");
         check.same("at SIZE 2", two.turn(0, 1, 5), 0);
         check.row("at SIZE 2", two, 5, 7, 0);
-        SeriesTables ten = Check.told(TEN);
+        SeriesTables ten = used(TEN);
         check.same("at SIZE 10", ten.turn(0, 1, 0), 0);
         check.row("at SIZE 10", ten, 0, 2, 3, 4, 5, 6, 7, 8, 9, 10, 0);
     }
 
     @Sentence(of = "Promise 10", says = "2 each coefficient i multiplied by i and one place ahead (the last one is 0)")
     static void multipliedAndOnePlaceAhead(Check check) {
-        SeriesTables two = Check.told("size 2;series 5 7;");
+        SeriesTables two = used("size 2;series 5 7;");
         check.same("at SIZE 2", two.turn(0, 2, 5), 0);
         check.row("at SIZE 2", two, 5, 7, 0);
-        SeriesTables ten = Check.told(TEN);
+        SeriesTables ten = used(TEN);
         check.same("at SIZE 10", ten.turn(0, 2, 0), 0);
         check.row("at SIZE 10", ten, 0, 2, 6, 12, 20, 30, 42, 56, 72, 90, 0);
     }
 
     @Sentence(of = "Promise 10", says = "3 each coefficient i divided by i and 1 and one place behind")
     static void dividedAndOnePlaceBehind(Check check) {
-        SeriesTables two = Check.told("size 2;series 5 7;");
+        SeriesTables two = used("size 2;series 5 7;");
         check.same("at SIZE 2", two.turn(0, 3, 5), 5);
         check.row("at SIZE 2", two, 5, 0, 5);
-        SeriesTables ten = Check.told(TEN);
+        SeriesTables ten = used(TEN);
         check.same("at SIZE 10, the last one goes", ten.turn(0, 3, 0), 1);
         check.row("at SIZE 10", ten, 0, 0, 1, 1, 1, 1, 1, 1, 1, 1, 1);
     }
 
     @Sentence(of = "Promise 10", says = "SERIES a, how 0 multiplied by t")
     static void multipliedByT(Check check) {
-        SeriesTables two = Check.told("size 2;series 5 7;");
+        SeriesTables two = used("size 2;series 5 7;");
         check.same("at SIZE 2", two.turn(0, 0, 5), 5);
         check.row("at SIZE 2", two, 5, 0, 5);
-        SeriesTables ten = Check.told(TEN);
+        SeriesTables ten = used(TEN);
         check.same("at SIZE 10", ten.turn(0, 0, 0), 9);
         check.row("at SIZE 10", ten, 0, 0, 1, 2, 3, 4, 5, 6, 7, 8, 9);
     }
@@ -199,14 +226,15 @@ final class EdgesOfSeries {
         check.same("2t + tt has one", x.turn(2, 4, 5) != -1, true);
         check.same("it is inserted", x.make(2, 5, 4, 5), 0);
         check.row("t comes of it", x, 5, 0, 1, 0);
-        SeriesTables two = Check.told("size 2;series 0 -1;series 0;");
-        check.same("at SIZE 2", two.turn(0, 4, 5), 1000002);
-        check.same("0 at SIZE 2", two.turn(1, 4, 5), -1);
+        SeriesTables two = used("size 2;series 5 7;series 0 -1;series 0;");
+        check.same("at SIZE 2", two.turn(1, 4, 5), 1000002);
+        check.row("at SIZE 2", two, 5, 0, -1);
+        check.same("0 at SIZE 2", two.turn(2, 4, 5), -1);
     }
 
     @Sentence(of = "Promise 10", says = "4 REVERSE, 5 1 by it (coefficient 0 not 0)")
     static void reverseAtSizeTen(Check check) {
-        SeriesTables x = Check.told(TEN);
+        SeriesTables x = used(TEN);
         check.same("of t - tt: Catalan's numbers", x.turn(1, 4, 1), 1430);
         check.row("of t - tt", x, 1, 0, 1, 1, 2, 5, 14, 42, 132, 429, 1430);
         check.same("and back", x.turn(1, 4, 1), 0);
@@ -215,10 +243,10 @@ final class EdgesOfSeries {
 
     @Sentence(of = "Promise 10", says = "5 1 by it (coefficient 0 not 0)")
     static void oneByASeriesThatBeginsWithZero(Check check) {
-        SeriesTables x = Check.told("size 3;series 0 1;series 1 -1;");
-        check.same("1 by t", x.turn(0, 5, 5), -1);
+        SeriesTables x = used("size 3;series 1 -1;series 0 1;");
+        check.same("1 by t", x.turn(1, 5, 5), -1);
         check.same("1 by 0", x.turn(5, 5, 5), -1);
-        check.same("1 by 1 less t", x.turn(1, 5, 5), 1);
+        check.same("1 by 1 less t", x.turn(0, 5, 5), 1);
         check.row("1 by 1 less t", x, 5, 1, 1, 1);
     }
 

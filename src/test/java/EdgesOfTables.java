@@ -48,6 +48,24 @@ final class EdgesOfTables {
         check.same("-t", Check.entry(x, 0, 1, 1), 1000002);
     }
 
+    @Sentence(of = "Terms", says = "its ENTRY in row i, column j (0 to SIZE less 1): coefficient i of g multiplied by f so many "
+        + "times as j tells")
+    static void entriesOfTheFirstAndLastColumn(Check check) {
+        SeriesTables two = Check.told(OF_TWO);
+        int[] due = {2, 0, 6, 10};
+        for (int k = 0; k < 4; k++) {
+            check.same("at SIZE 2", Check.entry(two, 0, k / 2, k % 2), due[k]);
+        }
+        SeriesTables ten = Check.told("size 10;series 3 1 4 1 5 9 2 6 5 7;series 0 2;table 0 1;");
+        int[] g = {3, 1, 4, 1, 5, 9, 2, 6, 5, 7};
+        for (int i = 0; i < 10; i++) {
+            check.same("column 0 is g", Check.entry(ten, 0, i, 0), g[i]);
+            check.same("the diagonal", Check.entry(ten, 0, i, i), 3 << i);
+            check.same("the last row", Check.entry(ten, 0, 9, i), g[9 - i] << i);
+            check.same("the last column", Check.entry(ten, 0, i, 9), i == 9 ? 3 * 512 : 0);
+        }
+    }
+
     @Sentence(of = "Promise 12", says = "the ENTRY in the last row, column 1")
     static void pairAnswersTheLastRow(Check check) {
         SeriesTables two = Check.told("size 2;series 2 6;series 0 5;");
@@ -184,6 +202,11 @@ final class EdgesOfTables {
         check.row("A at SIZE 2", two, 5, 5, 0);
         check.same("Z at SIZE 2", two.part(0, 3, 5), 3);
         check.row("Z at SIZE 2", two, 5, 3, 0);
+        // g 1 + t, f 2t: 1 less 1 by g is t - tt, and t is f by 2: Z is 1 less f by 2.
+        SeriesTables three = Check.told("size 3;series 1 1;series 0 2;table 0 1;");
+        three.part(3, 2, 5);
+        check.same("Z at SIZE 3, behind A of ONE", three.part(0, 3, 5), 1);
+        check.row("Z at SIZE 3", three, 5, 1, Check.P - Check.quotient(1, 2), 0);
         // Of Catalan's triangle A and Z are 1 by (1 less t).
         SeriesTables ten = Check.told("size 10;series 1 1 2 5 14 42 132 429;series 0 1 1 2 5 14 42 132 429;");
         ten.put(0, 8, 1430);
@@ -310,6 +333,31 @@ final class EdgesOfTables {
         }
         check.same("of ONE, the diagonal above", Check.production(ten, 3, 7, 8), 1);
         check.same("of ONE, the last place", Check.production(ten, 3, 8, 8), 0);
+    }
+
+    @Sentence(of = "Terms", says = "the matrix M for which the TABLE (without its last row) times M is the TABLE without its "
+        + "first row (and its last column)")
+    static void productionOfTheLargestTable(Check check) {
+        SeriesTables x = Check.told("size 10;series 3 1 4 1 5 9 2 6 5 3;series 0 2 7 1 8 2 8 1 8 2;table 0 1;");
+        long[][] entries = new long[10][10];
+        long[][] production = new long[9][9];
+        for (int i = 0; i < 10; i++) {
+            for (int j = 0; j < 10; j++) {
+                entries[i][j] = Check.entry(x, 0, i, j);
+                if (i < 9 && j < 9) {
+                    production[i][j] = Check.production(x, 0, i, j);
+                }
+            }
+        }
+        for (int i = 0; i < 9; i++) {
+            for (int j = 0; j < 9; j++) {
+                long sum = 0;
+                for (int k = 0; k < 9; k++) {
+                    sum += entries[i][k] * production[k][j];
+                }
+                check.same("row " + i + ", column " + j, sum % Check.P, entries[i + 1][j]);
+            }
+        }
     }
 
     @Sentence(of = "Promise 19", says = "PRODUCTION in a row, a column. NoSuchElementException: no such ones")

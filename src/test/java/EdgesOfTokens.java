@@ -34,6 +34,23 @@ final class EdgesOfTokens {
         check.fault("size 2;series{1;", 13, 1);
     }
 
+    @Sentence(of = "Terms", says = "WORDS: small letters")
+    static void wordsWithAnotherLetterCanNotCome(Check check) {
+        String[] ahead = {"", "size 3;", "size 3;series 1 ", TWO};
+        String[] words = {"size", "series", "over", "table"};
+        String[] behind = {" 2;", " 1;", " 1;", " 0 1;"};
+        for (int k = 0; k < 4; k++) {
+            check.lines(ahead[k] + words[k] + behind[k], k == 0 ? 1 : k == 3 ? 4 : 2);
+            for (int at = 0; at < words[k].length(); at++) {
+                String other = words[k].substring(0, at) + "x" + words[k].substring(at + 1);
+                String shorter = words[k].substring(0, at) + words[k].substring(at + 1);
+                check.fault(ahead[k] + other + behind[k], ahead[k].length(), 1);
+                check.fault(ahead[k] + shorter + behind[k], ahead[k].length(), 1);
+            }
+            check.fault(ahead[k] + words[k] + "x" + behind[k], ahead[k].length(), 1);
+        }
+    }
+
     @Sentence(of = "Terms", says = "NUMBERS: 1 to 3 digits")
     static void numbersHaveOneToThreeDigits(Check check) {
         SeriesTables x = Check.told("size 3;series 7 42 999;series 000 001 -999;");
